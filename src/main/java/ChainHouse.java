@@ -561,8 +561,8 @@ public final class ChainHouse {
         for (int k = 0; k < aside.count; k++) {
             judge.forPool(node, aside.bytes, aside.start[k], aside.lengthOf(k), true);
         }
-        tree.follow(oldTip, oldChain);
-        for (int h = 0; h <= tree.height[oldTip]; h++) {
+        int top = tree.follow(oldTip, oldChain);
+        for (int h = 0; h <= top; h++) {
             if (tree.isOnChain(oldChain[h])) continue;
             int at = tree.rows.start[oldChain[h]];
             int end = at + tree.rows.lengthOf(oldChain[h]);
@@ -768,17 +768,16 @@ public final class ChainHouse {
             return at + 2 + i * INPUT_BYTES;
         }
 
-        static int outputAt(byte[] b, int at, int i) {
-            int inputs = one(b, at);
+        static int outputAt(int at, int inputs, int i) {
             return at + 2 + (inputs == 0 ? 4 : inputs * INPUT_BYTES) + i * OUTPUT_BYTES;
         }
 
         /** All amounts of a transaction's outputs; -1 if one is not as it may be. */
         static long paidBy(byte[] b, int at) {
             long sum = 0;
-            int outputs = one(b, at + 1);
+            int inputs = one(b, at), outputs = one(b, at + 1);
             for (int i = 0; i < outputs; i++) {
-                long amount = number(b, outputAt(b, at, i), 8);
+                long amount = number(b, outputAt(at, inputs, i), 8);
                 if (amount < 1 || amount > AMOUNT_MOST) return -1;
                 sum += amount;
             }
@@ -935,7 +934,7 @@ public final class ChainHouse {
 
         /** The address, if the parts are ends. */
         long addressOfEnds() {
-            save(ends, 0);
+            for (int i = 0; i < 8; i++) Bytes.put(ends, 8 * i, parts[i], 8);
             sha.digest(ends, 0, SIGNATURE_BYTES);
             return sha.limbOf(0);
         }
@@ -950,7 +949,8 @@ public final class ChainHouse {
 
         /** The digits of what a transaction's signatures are of. */
         void readDigits(byte[] b, int at, int length) {
-            Bytes.copy(b, at, bare, 0, length);
+            if (length < 1 || length > bare.length || at < 0 || at > b.length - length) return;
+            System.arraycopy(b, at, bare, 0, length);
             int inputs = Math.min(PUTS_MOST, bare[0] & 255);
             for (int i = 0; i < inputs; i++) {
                 int from = Bytes.inputAt(0, i) + SIGNATURE_AT;
@@ -975,8 +975,9 @@ public final class ChainHouse {
         final int[] words = new int[8];
         private final int[] divisor = new int[8];
         private final int[] rest = new int[8];
-        /** What was made last by makeWork. */
+        /** The work of the bits below, for most blocks have those of the one before. */
         final int[] work = new int[8];
+        private int workBits;
 
         static boolean isRight(int bits) {
             int e = bits >>> 24, m = bits & 0xFFFFFF;
@@ -1039,8 +1040,11 @@ public final class ChainHouse {
             return m <= MANTISSA_MOST ? e << 24 | m : e + 1 << 24 | m >>> 8;
         }
 
-        /** 2^256 by one more than the number, bit by bit. */
-        void makeWork() {
+        /** 2^256 by one more than a target, bit by bit. */
+        void makeWork(int bits) {
+            if (bits == workBits) return;
+            workBits = bits;
+            load(bits);
             long carry = 1;
             for (int i = 7; i >= 0; i--) {
                 carry += words[i] & LOW_WORD;
@@ -1163,7 +1167,7 @@ public final class ChainHouse {
                 remove(indexOf(Bytes.number(b, from, 8), Bytes.one(b, from + 8)));
             }
             for (int i = 0; i < outputs && count < COINS_MOST; i++) {
-                int from = Bytes.outputAt(b, at, i);
+                int from = Bytes.outputAt(at, inputs, i);
                 id[count] = known;
                 place[count] = i;
                 amount[count] = Bytes.number(b, from, 8);
@@ -1248,8 +1252,7 @@ public final class ChainHouse {
             Bytes.copy(hash, 0, hashes, HASH_BYTES * k, HASH_BYTES);
             System.arraycopy(itsIds, 0, ids, BODY_MOST * k, BODY_MOST);
             note(k, behind, b, 0);
-            target.load(bits[k]);
-            target.makeWork();
+            target.makeWork(bits[k]);
             long carry = 0;
             for (int i = 7; i >= 0; i--) {
                 carry += (target.work[i] & LOW_WORD) + (behind < 0 ? 0 : totals[8 * behind + i] & LOW_WORD);
@@ -1271,6 +1274,7 @@ public final class ChainHouse {
         }
 
         private void note(int k, int behind, byte[] b, int at) {
+            if (k < 0 || k >= before.length || behind >= k) return;
             before[k] = behind;
             height[k] = behind < 0 ? 0 : height[behind] + 1;
             time[k] = (int) Bytes.number(b, at + TIME_AT, 4);
@@ -1278,6 +1282,7 @@ public final class ChainHouse {
         }
 
         int middleTime(int block) {
+            if (block >= time.length) return 0;
             int many = 0;
             for (int k = block; k >= 0 && many < TIMES_MOST; k = before[k]) {
                 int i = many;
@@ -1292,6 +1297,7 @@ public final class ChainHouse {
         }
 
         int dueBits(int block) {
+            if (block < 0 || block >= bits.length) return 0;
             if ((height[block] + 1) % DUE_EVERY != 0) return bits[block];
             int k = block;
             for (int i = 1; i < DUE_EVERY && before[k] >= 0; i++) k = before[k];
@@ -1590,7 +1596,7 @@ public final class ChainHouse {
 
         /** Writes a block's record, or goes down with the fuse and answers false. */
         boolean write(byte[] b, int length, int seal) {
-            if (!hasRoomFor(length) || length > b.length) return false;
+            if (length < 0 || length > b.length || !hasRoomFor(length)) return false;
             int end = next + length + RECORD_BYTES;
             Bytes.put(disk, end, 0, 2);
             Bytes.put(disk, next, 0, 2);
@@ -1624,6 +1630,7 @@ public final class ChainHouse {
                 for (int k = 0; k < pool.count; k++) {
                     if ((used >> k & 1) == 0 && (best < 0 || fees[k] > fees[best])) best = k;
                 }
+                if (best < 0) break;
                 used |= 1 << best;
                 chosen[many] = best;
                 many++;
@@ -1661,6 +1668,7 @@ public final class ChainHouse {
 
         /** Writes it without signatures: how many bytes. */
         int write(byte[] b, int height) {
+            if (b.length < TRANSACTION_MOST) return 0;
             Arrays.fill(b, 0, TRANSACTION_MOST, (byte) 0);
             b[0] = (byte) inputs;
             b[1] = (byte) outputs;
@@ -1670,10 +1678,10 @@ public final class ChainHouse {
                 Bytes.put(b, Bytes.inputAt(0, i) + 8, places[i], 1);
             }
             for (int i = 0; i < outputs; i++) {
-                Bytes.put(b, Bytes.outputAt(b, 0, i), amounts[i], 8);
-                Bytes.put(b, Bytes.outputAt(b, 0, i) + 8, addresses[i], 8);
+                Bytes.put(b, Bytes.outputAt(0, inputs, i), amounts[i], 8);
+                Bytes.put(b, Bytes.outputAt(0, inputs, i) + 8, addresses[i], 8);
             }
-            return Bytes.outputAt(b, 0, outputs);
+            return Bytes.outputAt(0, inputs, outputs);
         }
     }
 }

@@ -18,6 +18,23 @@ public final class RandomRunsTest {
         p = new Pair("random run " + seed, nodes);
     }
 
+    /** A chain that all nodes have, and perhaps forks of it. */
+    private void prepare() {
+        int many = r.nextInt(4) == 0 ? 0 : r.nextInt(40);
+        for (int i = 0; i < many; i++) {
+            assembleAndSolve(0);
+            p.give(0, 5);
+            for (int n = 1; n < nodes; n++) {
+                if (rarely(60)) continue;
+                p.take(0, p.told(0, 2));
+                p.give(n, 5);
+            }
+        }
+        for (int a = 0; a < nodes; a++) {
+            for (int b = 0; b < a; b++) if (rarely(2)) p.link(a, b, 1 + r.nextInt(3));
+        }
+    }
+
     private int node() {
         return r.nextInt(40) == 0 ? odd() : r.nextInt(nodes);
     }
@@ -38,7 +55,7 @@ public final class RandomRunsTest {
         int time = p.due(node, 1) + 1 + r.nextInt(2 * pace);
         if (rarely(20)) time = odd();
         p.assemble(node, r.nextInt(5), time);
-        if (rarely(6)) tamper();
+        if (rarely(12)) tamper();
         for (int i = 0; i < 3; i++) {
             if (p.solve(rarely(10) ? -3 : 2000L * i, 2000) > 0) break;
         }
@@ -107,6 +124,35 @@ public final class RandomRunsTest {
         if (rarely(4)) p.judge(r.nextInt(nodes), 6);
         if (rarely(6)) p.post(node, node(), 6);
         else p.give(rarely(5) ? node() : node, 6);
+        if (rarely(4)) {
+            p.sign(1);
+            p.give(r.nextInt(nodes), 6);
+        }
+        if (rarely(6)) {
+            p.pay(1, 1);
+            p.sign(1);
+            p.give(r.nextInt(nodes), 6);
+        }
+    }
+
+    /** A block behind any stored one, with times and bits that need not be right. */
+    private void fork() {
+        Model.Nd nd = some();
+        int back = r.nextInt(4);
+        Model.Blk on = nd.tip;
+        for (int i = 0; i < back && on.before != null; i++) on = on.before;
+        int many = 1 + r.nextInt(5);
+        for (int i = 0; i < many; i++) {
+            int bits = rarely(20) ? 0x200FFF00 : Model.dueBehind(on);
+            int time = Model.middleBehind(on) + (rarely(20) ? 0 : 1 + r.nextInt(2 * pace));
+            byte[] body = Lab.reward(on.height + 1, 1 + r.nextInt(1000), r.nextInt(5));
+            if (Model.target(bits).bitLength() < 246) return;
+            byte[] raw = Lab.craft(on.hash, time, bits, body);
+            feedAll(raw);
+            int verdict = p.give(nd.number, 5);
+            if (verdict != 0) return;
+            on = nd.blocks.get(nd.blocks.size() - 1);
+        }
     }
 
     /** A block with transactions that need not be right, put together by hand. */
@@ -185,7 +231,7 @@ public final class RandomRunsTest {
 
     private void power() {
         int node = r.nextInt(nodes);
-        switch (r.nextInt(6)) {
+        switch (r.nextInt(8)) {
             case 0: p.down(node); break;
             case 1: p.fuse(node, rarely(3) ? -1 : r.nextInt(400)); break;
             case 2: p.poke(node, rarely(10) ? odd() : r.nextInt(Math.max(1, p.m.nodes[node].next)), odd()); break;
@@ -216,7 +262,8 @@ public final class RandomRunsTest {
 
     private void step() {
         int what = r.nextInt(100);
-        if (what < 25) mine();
+        if (what < 15) mine();
+        else if (what < 25) fork();
         else if (what < 40) transaction();
         else if (what < 45) oddBlock();
         else if (what < 55) carry();
@@ -229,11 +276,14 @@ public final class RandomRunsTest {
     }
 
     private void go(int steps) {
+        prepare();
         for (int i = 0; i < steps; i++) {
             step();
             if (i % 10 == 0) p.lookAround(false);
         }
         p.lookAround(true);
+        p.tick(64);
+        p.lookAround(false);
         for (int i = 0; i < nodes; i++) {
             p.down(i);
             p.up(i);
