@@ -1666,12 +1666,10 @@ public final class ChainHouse {
             return outputs;
         }
 
-        /** Writes it without signatures: how many bytes. */
+        /** Writes it, but for its signatures: how many bytes. */
         int write(byte[] b, int height) {
-            if (b.length < TRANSACTION_MOST) return 0;
-            Arrays.fill(b, 0, TRANSACTION_MOST, (byte) 0);
-            b[0] = (byte) inputs;
-            b[1] = (byte) outputs;
+            Bytes.put(b, 0, inputs, 1);
+            Bytes.put(b, 1, outputs, 1);
             if (inputs == 0) Bytes.put(b, 2, height, 4);
             for (int i = 0; i < inputs; i++) {
                 Bytes.put(b, Bytes.inputAt(0, i), ids[i], 8);

@@ -37,6 +37,22 @@ public final class ChainTest {
         for (int k = 9; k < 12; k++) due("35: a target", x.limb(0, 40, k), 0);
     }
 
+    private static void slowBits() {
+        Lab lab = new Lab(1);
+        chain(lab, 15, 1);
+        chain(lab, 16, 1000);
+        due("41: 15000 seconds count as 640", lab.x.due(0, 0), 0x200FFFFC);
+        Lab same = new Lab(1);
+        chain(same, 15, 1);
+        chain(same, 14, 10);
+        same.solved(0, 1, same.x.due(0, 1) + 100 + 1);
+        due("19: a block", same.x.give(0, 5), 0);
+        int last = same.x.block(0, 16, 2) + 639;
+        same.solved(0, 1, last);
+        due("19: a block", same.x.give(0, 5), 0);
+        due("41: 639 seconds", same.x.due(0, 0), Model.toBits(Model.target(0x2003FFFF).multiply(java.math.BigInteger.valueOf(639)).divide(java.math.BigInteger.valueOf(160))));
+    }
+
     /** Three fast spans: the mantissa falls below what the highest exponent may have. */
     private static void hardBits() {
         Lab lab = new Lab(1);
@@ -222,6 +238,21 @@ public final class ChainTest {
         due("32: what is behind it is an orphan still", lab.x.told(0, 6), 1);
     }
 
+    /** Eight orphans behind one block are judged, the oldest first. */
+    private static void brothers() {
+        Lab lab = new Lab(1);
+        byte[] one = Lab.craft(Lab.hashOf(Model.firstBlock().raw), 1001, Lab.EASIEST, Lab.reward(1, 4096, 1));
+        byte[][] b = new byte[8][];
+        for (int i = 0; i < 8; i++) {
+            b[i] = Lab.craft(Lab.hashOf(one), 1002 + i, Lab.EASIEST, Lab.reward(2, 4096, i));
+            due("19: an orphan", lab.give(0, b[i]), 6);
+        }
+        due("19: the one before", lab.give(0, one), 0);
+        due("32: all are stored", lab.x.told(0, 1), 10);
+        due("32: the tip is the first of them", lab.x.told(0, 2), 2);
+        for (int i = 0; i < 8; i++) due("14: in their order", Arrays.equals(lab.block(0, i + 2), b[i]) ? 1 : 0, 1);
+    }
+
     /** 112 of the smallest blocks are stored, the next one has no room. */
     private static void room() {
         Lab lab = new Lab(1);
@@ -230,7 +261,12 @@ public final class ChainTest {
         due("32: where the next would stand", x.told(0, 7), 111 * 109);
         byte[] longer = Lab.craft(lab.tipHash(0), x.due(0, 1) + 1, x.due(0, 0), Lab.reward(112, 1, 1, 1, 1, 1, 1, 1, 1));
         due("18: room for 189 - 8", lab.judge(0, longer), 0);
-        chain(lab, 1, 12);
+        byte[] before = Lab.craft(lab.tipHash(0), x.due(0, 1) + 1, x.due(0, 0), Lab.reward(112, 1, 1));
+        byte[] orphan = Lab.craft(Lab.hashOf(before), x.due(0, 1) + 99, x.due(0, 0), Lab.reward(113, 1, 1));
+        due("19: an orphan", lab.give(0, orphan), 6);
+        due("19: the one before", lab.give(0, before), 0);
+        due("32: the orphan has no room, and is none any more", x.told(0, 6), 0);
+        due("32: it is up", x.told(0, 0), 1);
         due("32: the next", x.told(0, 7), 112 * 109);
         byte[] last = lab.solved(0, 1, x.due(0, 1) + 1);
         due("18: no room", x.judge(0, 5), 15);
@@ -241,6 +277,31 @@ public final class ChainTest {
         due("28: up", x.up(0), 113);
         due("18: no room", lab.judge(0, last), 15);
         due("32: unspent", x.told(0, 4), 113);
+    }
+
+    /** 104 of 109 bytes, and one of 950: it ends two bytes before the disk does. */
+    private static void exactRoom() {
+        Lab lab = new Lab(1);
+        ChainHouse x = lab.x;
+        for (int i = 0; i < 104; i++) {
+            lab.solved(0, 0, x.block(0, i, 2) + 12);
+            due("19: a block of the chain", x.give(0, 5), 0);
+        }
+        long[] four = {1, 1, 1, 1, 1, 1, 1, 1};
+        byte[][] body = new byte[6][];
+        body[0] = Lab.reward(105, 1, 1);
+        body[1] = Lab.tx(Lab.ins(x.unspent(0, 0, 0), 0, 0, x.unspent(0, 1, 0), 0, 0, x.unspent(0, 2, 0), 0, 0), four);
+        for (int i = 2; i < 6; i++) body[i] = Lab.tx(Lab.ins(x.unspent(0, i + 1, 0), 0, 0), four);
+        byte[] block = Lab.craft(lab.tipHash(0), x.due(0, 1) + 1, x.due(0, 0), body);
+        due("18: just room", lab.judge(0, block), 0);
+        due("19: just room", lab.give(0, block), 0);
+        due("32: the next", x.told(0, 7), 12286);
+        due("30: its length", x.peek(0, 104 * 109) << 8 | x.peek(0, 104 * 109 + 1), 944);
+        due("32: unspent", x.told(0, 4), 105 - 7 + 20 + 1);
+        x.down(0);
+        due("28: up", x.up(0), 106);
+        due("14: it is the last", Arrays.equals(lab.block(0, 105), block) ? 1 : 0, 1);
+        due("32: the next", x.told(0, 7), 12286);
     }
 
     /** A record may end two bytes before the disk does, not later. */
@@ -272,6 +333,7 @@ public final class ChainTest {
 
     public static void main(String[] args) {
         bits();
+        slowBits();
         hardBits();
         middle();
         subsidies();
@@ -280,7 +342,9 @@ public final class ChainTest {
         poolRoom();
         orphans();
         wrongOrphan();
+        brothers();
         room();
+        exactRoom();
         justRoom();
         Lab.end();
     }

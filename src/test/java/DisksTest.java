@@ -44,6 +44,7 @@ public final class DisksTest {
         due("27: it is down", x.down(0), ChainHouse.IS_DOWN);
         due("29: it is down", x.fuse(0, 1), ChainHouse.IS_DOWN);
         due("32: down", x.told(0, 0), 0);
+        due("32: down, with a fuse", x.told(0, 8), ChainHouse.NO);
         due("30: a disk can be seen", x.peek(0, 1), 103);
         due("27: the other one", x.down(1), 1);
         due("28: up", x.up(0), 7);

@@ -85,6 +85,29 @@ public final class JudgeTest {
         dueBlock("form comes before all", Lab.with(Model.firstBlock().raw, 64, 128), 1);
     }
 
+    /** As many bytes as its numbers say, but the numbers are none told. */
+    private static byte[] raw(int n, int m) {
+        byte[] all = new byte[2 + (n == 0 ? 4 : 73 * n) + 16 * m];
+        all[0] = (byte) n;
+        all[1] = (byte) m;
+        return all;
+    }
+
+    private static void counts() {
+        int[][] odd = {{5, 1}, {1, 5}, {0, 5}, {1, 0}, {0, 0}, {5, 5}};
+        for (int[] o : odd) {
+            dueTx("of " + o[0] + " and " + o[1], raw(o[0], o[1]), 1);
+            dueBlock("of " + o[0] + " and " + o[1], block(reward(), raw(o[0], o[1])), 1);
+        }
+        dueTx("four and four", raw(4, 4), 10);
+        dueBlock("four and four", block(reward(), raw(4, 4)), 10);
+        byte[][] many = new byte[9][];
+        for (int i = 0; i < 9; i++) many[i] = i == 0 ? reward() : raw(1, 1);
+        dueBlock("nine transactions", block(many), 1);
+        dueBlock("eight transactions", block(Arrays.copyOf(many, 8)), 10);
+        dueBlock("no transactions", Lab.work(Model.join(tip, new byte[32], Model.bytes(time), Model.bytes(BITS), new byte[9])), 1);
+    }
+
     private static void header() {
         dueBlock("the FIRST one", Model.firstBlock().raw, 2);
         dueBlock("the tip", lab.block(0, 8), 2);
@@ -238,6 +261,7 @@ public final class JudgeTest {
     public static void main(String[] args) {
         start();
         form();
+        counts();
         header();
         transactions();
         pool();

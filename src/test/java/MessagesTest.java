@@ -86,6 +86,10 @@ public final class MessagesTest {
             due("25: no byte", x.alter(2, i, 1), ChainHouse.BAD);
         }
         due("24: of no bytes", x.messageByte(6, 0), ChainHouse.BAD);
+        due("24: the first byte", x.messageByte(0, 0), 0);
+        due("25: the first byte", x.alter(0, 0, 7), 7);
+        due("25: the last byte", x.alter(5, 19, 7), 7);
+        due("24: the last byte", x.messageByte(5, 19), 7);
         due("24: a byte", x.messageByte(2, 3), 3);
         due("25: alter", x.alter(2, 3, 0x101), 2);
         due("25: alter", x.alter(2, 3, -1), 253);
@@ -233,13 +237,15 @@ public final class MessagesTest {
         x.tick(1);
         due("32: refused", x.told(0, 10), 4);
         lab.post(1, 0, 2, Model.join(new byte[32], Lab.hashOf(fork), hashes(lab, 0, 1, 2)));
+        lab.post(1, 0, 2, hashes(lab, 0, 2, 3));
         lab.post(1, 0, 2, hashes(lab, 0, 3, 0));
         lab.post(1, 0, 2, new byte[32]);
         lab.post(1, 0, 2, Model.join(times(new byte[32], 15), FIRST));
         x.tick(1);
-        due("33: two are answered", x.house(2), 2);
+        due("33: three are answered", x.house(2), 3);
         dueMessage("behind block 1", lab, 0, row(0, 1, 3, 3), headers(lab, 0, 2, 3));
-        dueMessage("behind the first", lab, 1, row(0, 1, 3, 3), headers(lab, 0, 1, 3));
+        dueMessage("behind block 2", lab, 1, row(0, 1, 3, 3), headers(lab, 0, 3, 3));
+        dueMessage("behind the first", lab, 2, row(0, 1, 3, 3), headers(lab, 0, 1, 3));
         due("32: not refused", x.told(0, 10), 4);
     }
 
@@ -259,6 +265,7 @@ public final class MessagesTest {
         wanted("over the change of bits", lab, Arrays.copyOfRange(h, 2 * 80, 18 * 80), 3, 4, 5, 6, 7, 8, 9, 10, 11, 12, 13, 14, 15, 16, 17, 18);
         wanted("one that is not behind a stored one", lab, Arrays.copyOfRange(h, 3 * 80, 5 * 80));
         wanted("a gap", lab, Model.join(Arrays.copyOfRange(h, 2 * 80, 4 * 80), Arrays.copyOfRange(h, 5 * 80, 7 * 80)), 3, 4);
+        wanted("the FIRST one, too", lab, Model.join(headers(lab, 0, 0, 0), Arrays.copyOf(h, 3 * 80)), 3);
         wanted("only those stored", lab, Arrays.copyOf(h, 2 * 80));
         wanted("a stored one between", lab, Model.join(Arrays.copyOfRange(h, 2 * 80, 3 * 80), Arrays.copyOf(h, 80), Arrays.copyOfRange(h, 3 * 80, 4 * 80)), 3);
         wanted("twice the same", lab, Model.join(Arrays.copyOfRange(h, 2 * 80, 3 * 80), Arrays.copyOfRange(h, 2 * 80, 3 * 80)), 3, 3);

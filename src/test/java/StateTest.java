@@ -149,6 +149,20 @@ public final class StateTest {
             due("40: no number -1", x.pooled(0, i, -1), 0);
         }
         due("40: not there", x.pooled(0, 2, 2), 0);
+        int many = x.told(0, 4);
+        lab.mine(0, 3, 1);
+        due("32: the pool is empty", x.told(0, 5), 0);
+        for (int w = 0; w < 3; w++) due("40: not any more", x.pooled(0, 0, w), 0);
+        due("32: unspent", x.told(0, 4), many + 1 + 3 - 3);
+        for (int k = 0; k < 8; k++) due("35: the highest limb of a total", x.limb(0, k, 4), 0);
+        byte[] c = Lab.tx(Lab.ins(Lab.idOf(a), 0, 1, Lab.idOf(a), 1, 2, Lab.idOf(b), 0, 1, x.unspent(0, 0, 0), 0, 0), 1, 9);
+        due("19: into the pool", lab.giveTx(0, c), 0);
+        lab.mine(0, 3, 1);
+        due("32: fewer are unspent", x.told(0, 4), many - 1);
+        for (int w = 0; w < 6; w++) due("37: not any more", x.unspent(0, many - 1, w), 0);
+        due("39: balance", x.balance(0, 9), 1);
+        due("39: all is spent", x.balance(0, 1), 0);
+        due("39: all is spent", x.balance(0, 2), 0);
     }
 
     public static void main(String[] args) {
