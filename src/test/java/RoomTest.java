@@ -68,6 +68,6 @@ public final class RoomTest {
         long ran = made() - before;
         System.out.println("six nodes: " + built + " bytes, a run: " + ran + " bytes");
         // The elements of the rows are bytes for the most part; the room has 7.3 million.
-        if (built > 1000000 || ran > 2000) System.exit(1);
+        if (built > 1000000 || ran > 20000) System.exit(1);
     }
 }
