@@ -992,8 +992,8 @@ public final class ChainHouse {
         static int compareWords(int[] a, int from, int[] b, int at) {
             if (from < 0 || from > a.length - 8 || at < 0 || at > b.length - 8) return 0;
             for (int i = 0; i < 8; i++) {
-                int c = Integer.compareUnsigned(a[from + i], b[at + i]);
-                if (c != 0) return c;
+                long x = a[from + i] & LOW_WORD, y = b[at + i] & LOW_WORD;
+                if (x != y) return x < y ? -1 : 1;
             }
             return 0;
         }
@@ -1029,7 +1029,7 @@ public final class ChainHouse {
                 words[i] = (int) (carry / SPAN);
                 carry %= SPAN;
             }
-            if (Integer.compareUnsigned(words[0], EASIEST_WORD) >= 0) load(EASIEST);
+            if ((words[0] & LOW_WORD) >= EASIEST_WORD) load(EASIEST);
         }
 
         int toBits() {

@@ -102,7 +102,7 @@ public final class FaceTest {
         Matcher imports = Pattern.compile("import ([^;]*);").matcher(bare);
         while (imports.find()) must("imports " + imports.group(1), imports.group(1).equals("java.util.Arrays"));
         Matcher library = Pattern.compile("\\b(System|Arrays|Math|Integer|Long)\\.(\\w+)").matcher(bare);
-        Set<String> allowed = Set.of("System.arraycopy", "Arrays.fill", "Math.min", "Math.max", "Integer.compareUnsigned");
+        Set<String> allowed = Set.of("System.arraycopy", "Arrays.fill", "Math.min", "Math.max");
         while (library.find()) must("the library's " + library.group(), allowed.contains(library.group()));
         must("no text", bare.indexOf('"') < 0);
     }
