@@ -533,20 +533,18 @@ public final class ChainHouse {
             if (k < 0) return true;
             // The letter itself is on the disk by now, its bytes serve for the orphan.
             mail.hold(node.lost.bytes, node.lost.start[k], node.lost.lengthOf(k));
-            node.lost.remove(k);
+            node.removeLost(k);
             int verdict = judge.ofBlock(node, mail.letter, mail.letterLength, true);
             if (verdict == RIGHT && !keep(node, depth + 1)) return false;
         }
         return true;
     }
 
+    /** The letter's block, which has just been judged, becomes an ORPHAN, unless it is one already. */
     private void keepOrphan(Node node) {
-        Rows lost = node.lost;
-        for (int k = 0; k < lost.count; k++) {
-            if (Bytes.same(lost.bytes, lost.start[k], mail.letter, 0, HEADER_BYTES)) return;
-        }
-        if (lost.count == LOST_MOST) lost.remove(0);
-        lost.add(mail.letter, 0, mail.letterLength);
+        if (node.isLost(judge.hash)) return;
+        if (node.lost.count == LOST_MOST) node.removeLost(0);
+        node.addLost(mail.letter, mail.letterLength, judge.hash);
         sendAsk(node);
     }
 
@@ -1574,6 +1572,8 @@ public final class ChainHouse {
         final long[] fees = new long[POOL_MOST];
         final int[] chosen = new int[CHOSEN_MOST];
         final Rows lost = new Rows(LOST_MOST, LOST_MOST * BLOCK_MOST);
+        /** The HASHES of the lost ones, for an orphan is known by its HASH, as every block is. */
+        private final Rows lostHashes = new Rows(LOST_MOST, LOST_MOST * HASH_BYTES);
         int received;
         int refused;
 
@@ -1586,6 +1586,7 @@ public final class ChainHouse {
         void forget() {
             pool.clear();
             lost.clear();
+            lostHashes.clear();
             fuse = NONE;
             coins.replay(tree, tree.tip);
         }
@@ -1612,6 +1613,22 @@ public final class ChainHouse {
             }
             next = end;
             return true;
+        }
+
+        boolean isLost(byte[] hash) {
+            for (int k = 0; k < lostHashes.count; k++) {
+                if (Bytes.same(lostHashes.bytes, lostHashes.start[k], hash, 0, HASH_BYTES)) return true;
+            }
+            return false;
+        }
+
+        void addLost(byte[] b, int length, byte[] hash) {
+            if (lost.add(b, 0, length)) lostHashes.add(hash, 0, HASH_BYTES);
+        }
+
+        void removeLost(int k) {
+            lost.remove(k);
+            lostHashes.remove(k);
         }
 
         /** The oldest orphan behind a block, or NONE. */

@@ -1,3 +1,4 @@
+import java.lang.reflect.Field;
 import java.util.Arrays;
 
 /** Parts 2 and 3: bits that are due, times, subsidies, tips, the pool made anew, orphans, a full disk. */
@@ -225,6 +226,84 @@ public final class ChainTest {
         due("19: the next", lab.give(0, b[9]), 0);
     }
 
+    private static byte[] behind(byte[] block, int time) {
+        return Lab.craft(Lab.hashOf(block), time, Lab.EASIEST, Lab.reward(2, 1, 1));
+    }
+
+    /** Gives an orphan that is one already: nothing comes of it. */
+    private static void giveAgain(String what, Lab lab, byte[] orphan) {
+        int lost = lab.x.told(0, 6), gone = lab.x.house(4);
+        due(what + ": 19: an orphan", lab.give(0, orphan), 6);
+        due(what + ": 32: the lost ones stay as they are", lab.x.told(0, 6), lost);
+        due(what + ": 33: nobody is asked", lab.x.house(4), gone);
+    }
+
+    /** Gives an orphan that is none yet: it becomes one, and the sender, which is nobody, is asked. */
+    private static void giveNew(String what, Lab lab, byte[] orphan) {
+        int lost = lab.x.told(0, 6), gone = lab.x.house(4);
+        due(what + ": 19: an orphan", lab.give(0, orphan), 6);
+        due(what + ": 32: it is one more, eight at most", lab.x.told(0, 6), Math.min(8, lost + 1));
+        due(what + ": 33: an ask to nobody is gone", lab.x.house(4), gone + 1);
+    }
+
+    /** Which orphans are there, when the oldest goes, one in the middle is stored, the node goes down. */
+    private static void orphansAgain() {
+        Lab lab = new Lab(1);
+        byte[] first = Model.firstBlock().raw;
+        byte[] one = behind(first, 1001), other = Lab.craft(Lab.hashOf(first), 1001, Lab.EASIEST, Lab.reward(1, 7, 7));
+        byte[][] b = new byte[9][];
+        for (int i = 0; i < 9; i++) {
+            b[i] = behind(i == 4 ? other : one, 1100 + i);
+            giveNew("orphan " + i, lab, b[i]);
+        }
+        for (int i = 1; i < 9; i++) giveAgain("orphan " + i + " again", lab, b[i]);
+        giveNew("the oldest went", lab, b[0]);
+        giveNew("and then the next", lab, b[1]);
+        due("19: what is before orphan 4", lab.give(0, other), 0);
+        due("32: orphan 4 is none any more", lab.x.told(0, 6), 7);
+        due("19: it is stored", lab.give(0, b[4]), 2);
+        for (int i = 0; i < 9; i++) {
+            if (i != 2 && i != 4) giveAgain("orphan " + i + " is still one", lab, b[i]);
+        }
+        giveNew("orphan 2 went before", lab, b[2]);
+        lab.x.down(0);
+        lab.x.up(0);
+        due("32: no orphans", lab.x.told(0, 6), 0);
+        giveNew("none is left", lab, b[2]);
+    }
+
+    private static Object inside(Object of, String field) throws ReflectiveOperationException {
+        Field f = of.getClass().getDeclaredField(field);
+        f.setAccessible(true);
+        return f.get(of);
+    }
+
+    /**
+     * Nobody knows two headers of one hash: an orphan's bytes are changed where they are kept, so
+     * that the block which comes has its hash and another header.
+     */
+    private static void orphansOfOneHash() throws ReflectiveOperationException {
+        Lab lab = new Lab(2);
+        ChainHouse x = lab.x;
+        x.link(0, 1, 1);
+        byte[] orphan = behind(behind(Model.firstBlock().raw, 1001), 1002);
+        lab.post(1, 0, 5, orphan);
+        x.tick(1);
+        due("33: one is asked", x.house(2), 1);
+        Object node = ((Object[]) inside(x, "nodes"))[0];
+        byte[] kept = (byte[]) inside(inside(node, "lost"), "bytes");
+        due("the first orphan stands first", Arrays.equals(Arrays.copyOf(kept, orphan.length), orphan) ? 1 : 0, 1);
+        for (int i = 0; i < 80; i++) kept[i] ^= 1;
+        giveAgain("another header, one hash", lab, orphan);
+        while (x.house(2) > 0) x.lose(0);
+        lab.post(1, 0, 5, orphan);
+        due("22: received", x.tick(1), 1);
+        due("32: it was an orphan before", x.told(0, 6), 1);
+        due("33: nothing is asked", x.house(2), 0);
+        System.arraycopy(orphan, 0, kept, 0, 80);
+        giveNew("another hash", lab, behind(behind(Model.firstBlock().raw, 1001), 1003));
+    }
+
     private static void wrongOrphan() {
         Lab lab = new Lab(1);
         byte[] first = Lab.hashOf(Model.firstBlock().raw);
@@ -331,7 +410,7 @@ public final class ChainTest {
         return outs;
     }
 
-    public static void main(String[] args) {
+    public static void main(String[] args) throws ReflectiveOperationException {
         bits();
         slowBits();
         hardBits();
@@ -341,6 +420,8 @@ public final class ChainTest {
         poolAnew();
         poolRoom();
         orphans();
+        orphansAgain();
+        orphansOfOneHash();
         wrongOrphan();
         brothers();
         room();
