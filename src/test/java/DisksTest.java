@@ -12,12 +12,6 @@ public final class DisksTest {
         return all;
     }
 
-    private static byte[] record(int place, byte[] block) {
-        byte[] two = {(byte) (place >> 8), (byte) place};
-        byte[] length = {(byte) (block.length >> 8), (byte) block.length};
-        return Model.join(length, block, Arrays.copyOf(Model.h(two, block), 4));
-    }
-
     private static void pokeAll(ChainHouse x, int node, int from, byte[] bytes) {
         for (int i = 0; i < bytes.length; i++) x.poke(node, from + i, bytes[i]);
     }
@@ -64,8 +58,8 @@ public final class DisksTest {
         lab.give(0, two);
         byte[] fork = Lab.craft(Lab.hashOf(one), 1003, Lab.EASIEST, Lab.reward(2, 1, 1));
         lab.give(0, fork);
-        byte[] want = Model.join(record(0, one), record(109, two));
-        want = Model.join(want, record(want.length, fork), new byte[20]);
+        byte[] want = Model.join(Plain.record(0, one), Plain.record(109, two));
+        want = Model.join(want, Plain.record(want.length, fork), new byte[20]);
         due("30: records", Arrays.equals(disk(x, 0, 0, want.length), want) ? 1 : 0, 1);
         due("32: the next", x.told(0, 7), want.length - 20);
         for (int i : new int[] {-1, 12288, Integer.MAX_VALUE}) {
@@ -87,7 +81,7 @@ public final class DisksTest {
         Lab lab = new Lab(1);
         ChainHouse x = lab.x;
         byte[] one = lab.solved(0, 1, 1001);
-        byte[] want = record(0, one);
+        byte[] want = Plain.record(0, one);
         for (int n = 0; n < 109; n++) {
             x = new ChainHouse(1);
             for (int i = 0; i < 200; i++) x.poke(0, i, 0x77);
@@ -178,20 +172,20 @@ public final class DisksTest {
                 due("28: whole again", x.up(0), 6);
             }
         }
-        pokeAll(x, 0, 545, record(545, lab.block(0, 2)));
+        pokeAll(x, 0, 545, Plain.record(545, lab.block(0, 2)));
         x.down(0);
         due("28: one that is known", x.up(0), 6);
-        pokeAll(x, 0, 545, record(545, Lab.craft(new byte[32], 5000, Lab.EASIEST, Lab.reward(6, 1, 1))));
+        pokeAll(x, 0, 545, Plain.record(545, Lab.craft(new byte[32], 5000, Lab.EASIEST, Lab.reward(6, 1, 1))));
         x.down(0);
         due("28: an orphan", x.up(0), 6);
-        pokeAll(x, 0, 545, record(545, Lab.craft(lab.tipHash(0), 5000, Lab.EASIEST, Lab.reward(6, 4097, 1))));
+        pokeAll(x, 0, 545, Plain.record(545, Lab.craft(lab.tipHash(0), 5000, Lab.EASIEST, Lab.reward(6, 4097, 1))));
         x.down(0);
         due("28: not right", x.up(0), 6);
         byte[] right = Lab.craft(lab.tipHash(0), 5000, Lab.EASIEST, Lab.reward(6, 4096, 1));
-        pokeAll(x, 0, 545, record(109, right));
+        pokeAll(x, 0, 545, Plain.record(109, right));
         x.down(0);
         due("28: of another place", x.up(0), 6);
-        pokeAll(x, 0, 545, record(545, right));
+        pokeAll(x, 0, 545, Plain.record(545, right));
         x.down(0);
         due("28: right", x.up(0), 7);
         due("14: it is block 6", Arrays.equals(lab.block(0, 6), right) ? 1 : 0, 1);
@@ -214,7 +208,7 @@ public final class DisksTest {
         due("28: up", x.up(0), 2);
         byte[] block = lab.solved(0, 5, 1500);
         due("19: another second one", x.give(0, 5), 0);
-        due("30: it stands there", Arrays.equals(disk(x, 0, 109, 218), record(109, block)) ? 1 : 0, 1);
+        due("30: it stands there", Arrays.equals(disk(x, 0, 109, 218), Plain.record(109, block)) ? 1 : 0, 1);
         due("30: the length behind it is 0", x.peek(0, 218) + x.peek(0, 219), 0);
         due("30: the rest stays", x.peek(0, 220) == 0 && x.peek(0, 221) == 0 && x.peek(0, 222) == 0 ? 1 : 0, 0);
         x.down(0);
@@ -234,7 +228,7 @@ public final class DisksTest {
         due("32: 157 bytes are left", x.told(0, 7), 12131);
         byte[] b = Lab.craft(Lab.hashOf(a), x.due(0, 1) + 1, x.due(0, 0), Lab.reward(112, 1, 1, 1, 1, 1, 1, 1, 1));
         due("18: no room with 2 bytes behind", lab.judge(0, b), 15);
-        pokeAll(x, 0, 12131, record(12131, b));
+        pokeAll(x, 0, 12131, Plain.record(12131, b));
         x.down(0);
         due("28: it is a record", x.up(0), 113);
         due("32: the next", x.told(0, 7), 12288);

@@ -80,11 +80,12 @@ final class Edges {
 
     // ---- the document
 
+    /** The document, or null where it is not at hand. */
     static String document() {
         try {
             return Files.readString(DOCUMENT);
         } catch (IOException e) {
-            throw new IllegalStateException("no document", e);
+            return null;
         }
     }
 

@@ -97,7 +97,7 @@ public final class FaceTest {
     private static void text() throws IOException {
         String source = Files.readString(Path.of("src/main/java/ChainHouse.java"));
         String bare = source.replaceAll("(?s)/\\*.*?\\*/", "").replaceAll("//[^\n]*", "");
-        Matcher word = Pattern.compile("\\b(throw|throws|try|catch|synchronized|assert|package|volatile|native|->|::)\\b").matcher(bare);
+        Matcher word = Pattern.compile("\\b(throw|throws|try|catch|synchronized|assert|package|volatile|native)\\b|->|::").matcher(bare);
         while (word.find()) must("without the word " + word.group(), false);
         Matcher imports = Pattern.compile("import ([^;]*);").matcher(bare);
         while (imports.find()) must("imports " + imports.group(1), imports.group(1).equals("java.util.Arrays"));

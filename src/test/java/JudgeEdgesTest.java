@@ -173,6 +173,10 @@ public final class JudgeEdgesTest {
             due("another transaction", h.judgeTx(0, Plain.draw(0, 2, 1)), 0);
             h.giveTx(0, Plain.draw(0, 3, 1));
             due("it comes before CLASH", h.judgeTx(0, tx), 13);
+            House first = eight();
+            byte[] second = Plain.draw(1, 1, 1);
+            Inside.nameCoin(first, 0, 0, Lab.idOf(second));
+            due("the first of what is UNSPENT", first.judgeTx(0, second), 13);
         });
         Edges.term("13 TWICE", () -> {
             byte[] tx = Plain.draw(0, 1, 1);
@@ -181,6 +185,11 @@ public final class JudgeEdgesTest {
             due("a block with it", h.judge(0, nine(tx)), 13);
             due("TWICE comes before PAY", h.judge(0, Plain.behind(8, Lab.reward(9, 0, 1), tx)), 13);
             due("a block with another", h.judge(0, nine(Plain.draw(0, 2, 1))), 0);
+        });
+        Edges.term("13 TWICE (also if its ID is that of the REWARD).", () -> {
+            due("a block with one ID", Inside.judgeOfOneId(eight(), 0, nine(Plain.draw(0, 1, 1))), 13);
+            due("AMOUNT comes before it", Inside.judgeOfOneId(eight(), 0, nine(Plain.draw(0, 4097, 1))), 12);
+            due("it comes before PAY", Inside.judgeOfOneId(eight(), 0, Plain.behind(8, Lab.reward(9, 0, 1), Plain.draw(0, 1, 1))), 13);
         });
         Edges.term("then 13 of the REWARD.", () -> {
             byte[] reward = Lab.reward(9, 4096, 7);
@@ -233,6 +242,18 @@ public final class JudgeEdgesTest {
                 byte[] block = nine();
                 ByteBuffer.wrap(block).putInt(68, bits);
                 blockIs("BITS " + Integer.toHexString(bits), block, 3);
+            }
+        });
+        Edges.term("3 WORK: BITS are not right, or its HASH doesn't MEET the TARGET.", () -> {
+            // BITS that are right, with a TARGET that its HASH does not meet, though it would meet the EASIEST one.
+            for (int bits : new int[] {0x04008000, 0x1D7FFFFF, 0x1F008000}) {
+                byte[] block = nine();
+                ByteBuffer b = ByteBuffer.wrap(block).putInt(68, bits);
+                while (!Model.meets(Lab.hashOf(block), Lab.EASIEST)) b.putLong(72, b.getLong(72) + 1);
+                House h = eight();
+                due("a right block", h.judge(0, nine()), 0);
+                due("BITS " + Integer.toHexString(bits), h.judge(0, block), 3);
+                due("a right block", h.judge(0, nine()), 0);
             }
         });
         Edges.term("4 ROOT: it is another one.", () -> {

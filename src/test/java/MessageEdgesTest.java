@@ -24,6 +24,7 @@ public final class MessageEdgesTest {
         gets();
         blocks();
         transactions();
+        shorter();
         refused();
     }
 
@@ -414,6 +415,9 @@ public final class MessageEdgesTest {
             byte[] lazy = header(Plain.hash(3), 3000, Lab.EASIEST);
             do lazy[79]++; while (Model.meets(Lab.hashOf(lazy), Lab.EASIEST));
             wanted("no WORK", Model.join(third, lazy), Plain.hash(3));
+            byte[] hard = Model.join(Plain.hash(3), new byte[32], Model.bytes(3000), Model.bytes(0x04008000), new byte[8]);
+            while (!Model.meets(Lab.hashOf(hard), Lab.EASIEST)) hard[79]++;
+            wanted("no WORK for a harder TARGET", Model.join(third, hard), Plain.hash(3));
             byte[] wrong = Model.join(Plain.hash(3), new byte[32], Model.bytes(3000), Model.bytes(0x20100000), new byte[8]);
             wanted("BITS that are not right", Model.join(third, wrong), Plain.hash(3));
         });
@@ -561,6 +565,48 @@ public final class MessageEdgesTest {
             due("what is not TAKEN is not sent on", h.house(2), 0);
             due("told(0, 10)", h.told(0, 10), 0);
             due("in the POOL", h.told(0, 5), 1);
+        });
+    }
+
+    /** What stood behind a message's last byte in the one before it does not count. */
+    private static void shorter() {
+        Edges.term("Of the first one that the receiver has not STORED: it sends ASK back (and looks at no more).", () -> {
+            House h = pair(0, 0);
+            h.post(0, 1, TOLD, Plain.hashes(0, 9));
+            h.post(0, 1, TOLD, Plain.hash(0));
+            due("tick(1)", h.tick(1), 2);
+            due("one ASK", h.house(2), 1);
+        });
+        Edges.term("nothing, if there are none, or none of the HASHES is on its chain", () -> {
+            House h = pair(2, 0);
+            h.post(1, 0, ASK, Plain.hashes(9, 0));
+            h.post(1, 0, ASK, Plain.hash(8));
+            due("tick(1)", h.tick(1), 2);
+            due("one with HEADERS", h.house(2), 1);
+        });
+        Edges.term("If there are HASHES it sends one GET with all.", () -> {
+            House h = pair(0, 0);
+            h.post(0, 1, HEADERS, Plain.headers(1, 2));
+            h.post(0, 1, HEADERS, Plain.headers(1, 1));
+            due("tick(1)", h.tick(1), 2);
+            h.messageIs("the first", 0, row(1, 0, GET, 2), Plain.hashes(1, 2));
+            h.messageIs("the second", 1, row(1, 0, GET, 2), Plain.hash(1));
+        });
+        Edges.term("4 GET: HASHES, 1 .. 16: each that the receiver has STORED it sends as 5 BLOCK, in order.", () -> {
+            House h = pair(2, 0);
+            h.post(1, 0, GET, Plain.hashes(1, 2));
+            h.post(1, 0, GET, Plain.hash(1));
+            due("tick(1)", h.tick(1), 2);
+            due("three blocks", h.house(2), 3);
+        });
+        Edges.term("Bytes of another form than told (how many; 1 FORM of 5, 6) are refused: nothing comes of them.", () -> {
+            House h = pair(0, 0);
+            h.post(0, 1, BLOCK, Plain.block(2));
+            h.post(0, 1, BLOCK, Arrays.copyOf(Plain.block(2), 102));
+            h.post(0, 1, TRANSACTION, Plain.draw(0, 1, 1));
+            h.post(0, 1, TRANSACTION, Arrays.copyOf(Plain.draw(0, 1, 1), 90));
+            due("tick(1)", h.tick(1), 4);
+            due("told(1, 10)", h.told(1, 10), 2);
         });
     }
 

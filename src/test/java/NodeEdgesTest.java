@@ -15,6 +15,7 @@ public final class NodeEdgesTest {
         pools();
         poolsAnew();
         poolsFull();
+        poolsOfGreatest();
         lost();
         orphans();
         disks();
@@ -144,6 +145,20 @@ public final class NodeEdgesTest {
             due("block 22 of the other chain", h.give(0, Plain.fork(next, 22, 5002, 8)), 0);
             poolIs(h, Plain.draw(5, 1, 1), Plain.draw(4, 1, 1), Plain.draw(0, 1, 1), Plain.draw(1, 1, 1), Plain.draw(3, 1, 1), Plain.draw(2, 1, 1));
         });
+        Edges.term("The POOL anew: what was in it, in order", () -> {
+            // Not what is in the POOL of another node, or was in its own.
+            House h = new House(2).grow(0, 1, 5).grow(1, 1, 5);
+            due("into the POOL", h.drawCoin(0, 1, 1).give(0, 6), 0);
+            due("into the POOL", h.drawCoin(1, 1, 1).give(0, 6), 0);
+            due("block 6", h.give(0, Plain.block(6)), 0);
+            due("block 6", h.give(1, Plain.block(6)), 0);
+            poolIs(h, Plain.draw(0, 1, 1), Plain.draw(1, 1, 1));
+            due("the POOL of node 1", h.told(1, 5), 0);
+            h.down(0);
+            h.up(0);
+            due("block 7", h.give(0, Plain.block(7)), 0);
+            due("the POOL of node 0", h.told(0, 5), 0);
+        });
         Edges.term("each is in it, if it would be TAKEN (see below), else it goes.", () -> {
             House h = twenty();
             due("what came in block 20", h.giveTx(0, Lab.tx(Lab.ins(Lab.idOf(Plain.draw(0, 1, 1)), 0, 1), 1, 1)), 0);
@@ -202,6 +217,32 @@ public final class NodeEdgesTest {
         });
     }
 
+    /** Puts a transaction of the coins of four heights, with four outputs, into the POOL of node 0. */
+    private static byte[] great(House h, int from) {
+        long[] ins = new long[12];
+        h.begin();
+        for (int k = 0; k < 4; k++) {
+            ins[3 * k] = Plain.coin(from + k);
+            h.input(ins[3 * k], 0, 0);
+        }
+        for (int k = 0; k < 4; k++) h.output(1, Model.keyAddress(0));
+        due("sign", h.sign(0), 358);
+        due("into the POOL", h.give(0, 6), 0);
+        return Lab.tx(ins, 1, 0, 1, 0, 1, 0, 1, 0);
+    }
+
+    private static void poolsOfGreatest() {
+        Edges.term("Its POOL: TRANSACTIONS (16 at most), judged behind its TIP (at the next HEIGHT).", () -> {
+            House h = new House(1).grow(0, 1, 67);
+            byte[][] want = new byte[16][];
+            for (int i = 0; i < 16; i++) want[i] = great(h, 4 * i);
+            poolIs(h, want);
+            due("block 68", h.give(0, Plain.block(68)), 0);
+            poolIs(h, want);
+            due("bytes of the last one", h.pooled(0, 15, 2), 358);
+        });
+    }
+
     // ---- ORPHANS
 
     private static void lost() {
@@ -217,6 +258,31 @@ public final class NodeEdgesTest {
             for (int i = 2; i < 10; i++) blockIs(h, 0, i, b[i]);
             due("the oldest one went", h.judge(0, b[0]), 0);
             due("and the next one", h.judge(0, b[1]), 0);
+        });
+        Edges.term("LOST ones: ORPHANS, 8 at most; when one more comes the oldest goes", () -> {
+            // The greatest that there are: node 0 has seven transactions of four and four in its POOL.
+            House h = new House(2).grow(0, 1, 31);
+            for (int i = 0; i < 7; i++) {
+                h.begin();
+                for (int k = 0; k < 4; k++) h.input(Plain.coin(4 * i + k), 0, 0);
+                for (int k = 0; k < 4; k++) h.output(1, k);
+                h.sign(0);
+                due("into the POOL", h.give(0, 6), 0);
+            }
+            for (int i = 0; i < 9; i++) {
+                due("a block of eight", h.assemble(0, i, 5000 + i), 103 + 7 * 358);
+                Edges.must("it is solved", h.solve(0, 2000) > 0);
+                due("an ORPHAN of node 1", h.give(1, 5), 6);
+            }
+            due("told(1, 6)", h.told(1, 6), 8);
+            for (int i = 1; i <= 31; i++) {
+                h.take(0, i);
+                due("block " + i, h.give(1, 5), 0);
+            }
+            // Three have room on its disk.
+            due("blocks STORED", h.told(1, 1), 35);
+            due("told(1, 6)", h.told(1, 6), 0);
+            for (int i = 1; i <= 3; i++) due("TIME of " + i, h.block(1, 31 + i, 2), 5000 + i);
         });
         Edges.term("none is there twice.", () -> {
             House h = new House(1);
@@ -472,7 +538,13 @@ public final class NodeEdgesTest {
             h.poke(0, 1, 0);
             h.down(0);
             due("up(0): the FIRST one alone", h.up(0), 1);
-            due("where the next would stand", h.told(0, 7), 0);
+            int[] told = {1, 1, 0, 0, 1, 0, 0, 0, NO};
+            for (int w = 0; w < told.length; w++) due("told(0, " + w + ")", h.told(0, w), told[w]);
+            due("at(0, 0)", h.at(0, 0), 0);
+            due("at(0, 1)", h.at(0, 1), Edges.BAD);
+            due("block(0, 0, 6)", h.block(0, 0, 6), 1);
+            due("unspent(0, 0, 0)", h.unspent(0, 0, 0), Plain.coin(0));
+            due("due(0, 1)", h.due(0, 1), 1000);
         });
         Edges.term("its last 4 bytes are others", () -> {
             for (int i = 1; i <= 4; i++) {
@@ -594,6 +666,18 @@ public final class NodeEdgesTest {
             due("pooled(0, 0, 2)", h.pooled(0, 0, 2), 0);
             due("the ORPHAN is none any more", h.give(0, Plain.block(5)), 0);
             due("blocks STORED", h.told(0, 1), 6);
+        });
+        Edges.term("POOL, LOST ones, what it asked are empty; there is no FUSE.", () -> {
+            House h = new House(1).grow(0, 1, 4);
+            due("an ORPHAN", h.give(0, Plain.block(6)), 6);
+            h.down(0);
+            due("up(0)", h.up(0), 5);
+            due("the ORPHAN comes again", h.give(0, Plain.block(6)), 6);
+            due("told(0, 6)", h.told(0, 6), 1);
+            due("it was none before, so that nobody is asked again", h.house(4), 2);
+            due("into the POOL", h.drawCoin(0, 1, 1).give(0, 6), 0);
+            h.down(0);
+            due("up(0)", h.up(0), 5);
             due("it may come to the POOL again", h.drawCoin(0, 1, 1).give(0, 6), 0);
         });
         Edges.term("POOL, LOST ones, what it asked are empty; there is no FUSE.", () -> {

@@ -18,6 +18,7 @@ public final class SendingEdgesTest {
         messages();
         altering();
         losing();
+        notAnyMore();
     }
 
     // ---- 18
@@ -363,6 +364,26 @@ public final class SendingEdgesTest {
             due("alter(1, 0, 1) of no bytes", h.alter(1, 0, 1), BAD);
             due("messageByte(2, 0)", h.messageByte(2, 0), 7);
         });
+    }
+
+    private static void noMessageAt(House h, int k) {
+        for (int w = 0; w < 5; w++) due("message(" + k + ", " + w + ")", h.message(k, w), BAD);
+        due("messageByte(" + k + ", 0)", h.messageByte(k, 0), BAD);
+        due("alter(" + k + ", 0, 1)", h.alter(k, 0, 1), BAD);
+        due("lose(" + k + ")", h.lose(k), BAD);
+    }
+
+    /** What was in the QUEUE, and is there no more. */
+    private static void notAnyMore() {
+        for (int promise = 23; promise <= 26; promise++) {
+            Edges.edge(promise, "BAD.", () -> {
+                House h = queued();
+                h.lose(2);
+                noMessageAt(h, 2);
+                h.tick(1);
+                for (int k = 0; k < 3; k++) noMessageAt(h, k);
+            });
+        }
     }
 
     private static void losing() {

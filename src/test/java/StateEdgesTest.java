@@ -238,6 +238,29 @@ public final class StateEdgesTest {
                 for (int w = 0; w < 12; w++) due("limb(0, " + k + ", " + w + ")", h.limb(0, k, w), Model.limbOf(want[w / 4], w % 4));
             }
         });
+        Edges.edge(35, "of its TOTAL (4 .. 7), of its TARGET (8 .. 11)", () -> {
+            // Blocks of other BITS than those of the block that came last.
+            House h = new House(1);
+            for (int i = 1; i <= 16; i++) due("block " + i, h.mine(0, 1, 1000 + i), 0);
+            for (int k : new int[] {16, 15, 16, 0}) {
+                due("limb(0, " + k + ", 8)", h.limb(0, k, 8), k == 16 ? 0x03FFFF0000000000L : 0x0FFFFF0000000000L);
+                for (int w = 9; w < 12; w++) due("limb(0, " + k + ", " + w + ")", h.limb(0, k, w), 0);
+                due("limb(0, " + k + ", 7)", h.limb(0, k, 7), k == 16 ? 320 : 16 * (k + 1));
+            }
+        });
+        Edges.edge(35, "Block k of a node", () -> {
+            // The last one that a disk has room for.
+            House h = new House(1).grow(0, 1, 112);
+            BigInteger[] want = {new BigInteger(1, Plain.hash(112)), BigInteger.valueOf(16 * 113), Model.EASIEST};
+            for (int w = 0; w < 12; w++) due("limb(0, 112, " + w + ")", h.limb(0, 112, w), Model.limbOf(want[w / 4], w % 4));
+            for (int w = 0; w <= 12; w++) due("limb(0, 113, " + w + ")", h.limb(0, 113, w), 0);
+            int[] block = {111, 112, Plain.time(112), Lab.EASIEST, 1, 103, 1};
+            for (int w = 0; w <= 6; w++) due("block(0, 112, " + w + ")", h.block(0, 112, w), block[w]);
+            due("block(0, 113, 0)", h.block(0, 113, 0), BAD);
+            due("at(0, 112)", h.at(0, 112), 112);
+            due("unspent(0, 112, 2)", h.unspent(0, 112, 2), 512);
+            due("take(0, 112)", h.take(0, 112), 103);
+        });
         Edges.edge(35, "its NONCE (12).", () -> {
             House h = new House(1);
             due("limb(0, 0, 12)", h.limb(0, 0, 12), 42);
@@ -334,6 +357,23 @@ public final class StateEdgesTest {
             h.down(0);
             for (int w = 0; w <= 5; w++) due("unspent(0, 0, " + w + "), DOWN", h.unspent(0, 0, w), 0);
         });
+        Edges.edge(37, "0 for what there is not.", () -> {
+            House h = fewer();
+            for (int i = 5; i < 8; i++) {
+                for (int w = 0; w <= 5; w++) due("unspent(0, " + i + ", " + w + ")", h.unspent(0, i, w), 0);
+                due("spend(0, " + i + ", 0)", h.spend(0, i, 0), BAD);
+            }
+        });
+    }
+
+    /** A house that had seven UNSPENT, and has five. */
+    private static House fewer() {
+        House h = new House(1).grow(0, 1, 6);
+        due("how many are UNSPENT", h.told(0, 4), 7);
+        byte[] four = Lab.tx(Lab.ins(Plain.coin(0), 0, 0, Plain.coin(1), 0, 0, Plain.coin(2), 0, 0, Plain.coin(3), 0, 0), 1, 3);
+        due("block 7", h.give(0, Plain.behind(6, Lab.reward(7, 1, 2), four)), 0);
+        due("how many are UNSPENT", h.told(0, 4), 5);
+        return h;
     }
 
     // ---- 38
@@ -365,6 +405,12 @@ public final class StateEdgesTest {
             long[][] want = {{0, 4 * 4096}, {3, 4096}, {7, 1}, {-1, 4095}, {1, 0}, {Long.MIN_VALUE, 0}};
             for (long[] w : want) due("balance(0, " + w[0] + ")", h.balance(0, w[0]), w[1]);
             due("balance(1, 0) of the other", h.balance(1, 0), 4096);
+        });
+        Edges.edge(39, "All AMOUNTS that are UNSPENT behind a node's TIP and belong to a SEED's ADDRESS", () -> {
+            House h = fewer();
+            long[] want = {3 * 4096, 0, 1, 1};
+            for (int seed = 0; seed < 4; seed++) due("balance(0, " + seed + ")", h.balance(0, seed), want[seed]);
+            for (int coin = 0; coin < 4; coin++) due("find of coin " + coin, h.find(0, Plain.coin(coin), 0), NO);
         });
         Edges.edge(39, "0 of a node that is DOWN, or that there is not.", () -> {
             House h = spent();
