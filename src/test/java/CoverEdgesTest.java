@@ -5,6 +5,7 @@ import java.util.List;
 /** Each sentence that a test of an edge names stands in the document there, and none of the promises is left out. */
 public final class CoverEdgesTest {
     private static final int PROMISES = 41;
+
     private static List<String> sentencesOf(int promise) {
         List<String> all = new ArrayList<>();
         for (Edges.Edge e : Edges.ALL) if (e.promise() == promise) all.add(e.sentence());

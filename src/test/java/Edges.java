@@ -101,11 +101,11 @@ final class Edges {
         return inOneLine(text.substring(text.indexOf("`: ") + 3));
     }
 
-    /** All that is no promise: what it is, the terms. */
+    /** All that is no promise: what it is, the terms, and what is not promised of later calls. */
     static String terms(String document) {
         String what = document.substring(document.indexOf("## What it is"), document.indexOf("## The public face"));
         String terms = document.substring(document.indexOf("## Terms"), document.indexOf("Ahead of the calls `feed`"));
-        return inOneLine(what + " " + terms);
+        return inOneLine(what + " " + terms + " " + document.substring(document.indexOf("Nothing is promised beyond")));
     }
 
     // ---- refusals

@@ -13,6 +13,7 @@ public final class TermEdgesTest {
 
     static void all() {
         calls();
+        laterCalls();
         hashes();
         keys();
         signatures();
@@ -45,6 +46,26 @@ public final class TermEdgesTest {
                 x.tick(1 + i % 64);
             }
             Edges.must("all calls ended", x.house(0) == 2);
+        });
+    }
+
+    /** Every call there is with odd numbers, far behind the 512th. */
+    private static void laterCalls() {
+        Edges.term("and nothing about an object after its 512th call.", () -> {
+            ChainHouse x = new ChainHouse(6);
+            int[] odd = {Integer.MIN_VALUE, -1, 0, 1, 5, 6, 64, 200, 4000, 12287, 12288, Integer.MAX_VALUE};
+            long sum = 0;
+            for (int a : odd) {
+                for (int b : odd) {
+                    sum += x.feed(a, b, a, b, a) + x.cut(b) + x.turn(a, b) + x.hash(true, a) + x.part(a, b, b) + x.input(a, b, a)
+                        + x.spend(a, b, a) + x.output(a, b) + x.pay(a, b) + x.sign(a) + x.take(a, b) + x.assemble(a, b, b) + x.root()
+                        + x.solve(a, b) + x.judge(a, b) + x.give(a, b) + x.post(a, b, a) + x.link(a, b, 1) + x.tick(a) + x.message(a, b)
+                        + x.messageByte(a, b) + x.alter(a, b, a) + x.lose(a) + x.down(a) + x.up(b) + x.fuse(a, b) + x.peek(a, b)
+                        + x.poke(a, b, a) + x.told(a, b) + x.house(a) + x.block(a, b, b) + x.limb(a, b, b) + x.at(a, b) + x.unspent(a, b, b)
+                        + x.find(a, b, b) + x.balance(a, b) + x.pooled(a, b, b) + x.due(a, b) + x.begin() + x.address(a);
+                }
+            }
+            Edges.must("all calls ended", sum != 0 || x.house(0) == 6);
         });
     }
 
