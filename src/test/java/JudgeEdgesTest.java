@@ -214,6 +214,19 @@ public final class JudgeEdgesTest {
                 {104, 5}, {113, 4}};
             for (int[] o : odd) blockIs("byte " + o[0] + " is " + o[1], Lab.with(right, o[0], o[1]), 1);
         });
+        Edges.term("1 FORM: the bytes are no block (just all of them; TIME, how many, n, m, HEIGHTS, places as told).", () -> {
+            // A byte before a transaction, with which there are three: what is read from it on is none.
+            byte[] tx = new byte[91], oddPlace = new byte[92];
+            tx[0] = tx[1] = 1;
+            oddPlace[0] = oddPlace[1] = oddPlace[2] = 1;
+            oddPlace[10] = 4;
+            byte[] first = Lab.reward(9, 4096, 7);
+            blockIs("255 INPUTS", Plain.behind(8, first, new byte[] {-1}, tx), 1);
+            blockIs("more INPUTS than there are bytes", Plain.behind(8, first, new byte[] {4}, tx), 1);
+            blockIs("a place of 4", Plain.behind(8, first, Arrays.copyOf(oddPlace, 1), Arrays.copyOfRange(oddPlace, 1, 92)), 1);
+            blockIs("without the byte", Plain.behind(8, first, tx), 10);
+            blockIs("without the byte", Plain.behind(8, first, Arrays.copyOfRange(oddPlace, 1, 92)), 10);
+        });
         Edges.term("2 KNOWN: it is stored (its HASH).", () -> {
             for (int k : new int[] {0, 1, 8}) blockIs("block " + k, Plain.block(k), 2);
             byte[] known = Plain.block(3);
