@@ -624,8 +624,8 @@ public final class ChainHouse {
         int height = tree.height[tree.tip], length = HASH_BYTES;
         Bytes.copy(tree.hashes, HASH_BYTES * tree.tip, outbox, 0, HASH_BYTES);
         int last = height;
-        for (int back = 1; back <= height; back *= 2) {
-            last = height - back;
+        for (int i = 0; i < IN_A_MESSAGE - 2 && 1 << i <= height; i++) {
+            last = height - (1 << i);
             Bytes.copy(tree.hashes, HASH_BYTES * tree.chain[last], outbox, length, HASH_BYTES);
             length += HASH_BYTES;
         }

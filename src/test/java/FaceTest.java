@@ -66,6 +66,20 @@ public final class FaceTest {
         return names;
     }
 
+    /** The face as the document has it, where it is at hand. */
+    private static void document() {
+        String document = Edges.document();
+        if (document == null) return;
+        String face = document.substring(document.indexOf("```java"), document.indexOf("## Terms"));
+        Set<String> want = new TreeSet<>();
+        Matcher call = Pattern.compile("public (\\w+ \\w+)\\(([^)]*)\\);").matcher(face);
+        while (call.find()) want.add(call.group(1) + "(" + call.group(2).replaceAll(" \\w+(,|$)", "$1") + ")");
+        must("the document's methods are those here, not " + want, want.equals(new TreeSet<>(Set.of(METHODS))));
+        must("its constants", face.contains("public static final int BAD = -1, IS_DOWN = -2, FULL = -3, NO = -4;"));
+        must("its class", face.contains("public final class ChainHouse {"));
+        must("its constructor", face.contains("public ChainHouse(int n);"));
+    }
+
     private static void inside(Set<String> names) {
         Class<?>[] all = ChainHouse.class.getDeclaredClasses();
         must("at most some twelve classes", all.length < 12);
@@ -109,6 +123,7 @@ public final class FaceTest {
 
     public static void main(String[] args) throws IOException {
         inside(face());
+        document();
         text();
         System.out.println(wrong == 0 ? "the face and the rules are kept" : wrong + " are not");
         if (wrong != 0) System.exit(1);
